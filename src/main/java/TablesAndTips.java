@@ -69,7 +69,7 @@ public final class TablesAndTips {
     private static final int SETTINGS = 5;
     private static final int[] SETTING_MOST = {3, 30, 99, 99, 99};
 
-    private static final int OWN = 0;
+    // SHARING but for 0, OWN.
     private static final int POT = 1;
     private static final int BY_POINTS = 2;
     private static final int HALF = 3;
@@ -726,6 +726,7 @@ public final class TablesAndTips {
         private int seed = 1;
         private final int[] given = new int[TABLES];
 
+        /** What is given is no part of it: it follows from the rest. */
         void becomeAs(House other) {
             copyAll(other.tables, tables);
             copyAll(other.waiters, waiters);
@@ -735,7 +736,6 @@ public final class TablesAndTips {
             evenings = other.evenings;
             jar = other.jar;
             seed = other.seed;
-            copyAll(other.given, given);
         }
 
         int tableCount() {
@@ -1154,6 +1154,7 @@ public final class TablesAndTips {
     private static final class Outcomes {
         private final House trial = new House();
         private final int[] gains = new int[EFFORT_ROWS * WAITERS];
+        /** The row of the EFFORTS as they are, and the row that the latest search came to. */
         private int rowNow = 0;
         private int rowFound = 0;
         private final int[] own = new int[WAITERS];
@@ -1189,7 +1190,8 @@ public final class TablesAndTips {
             for (int w = 0; w < trial.waiterCount(); w++) {
                 rowNow = rowNow * EFFORTS + h.waiterPart(w, EFFORT);
             }
-            for (int row = 0; row < effortRows(); row++) {
+            int rows = effortRows();
+            for (int row = 0; row < rows; row++) {
                 for (int w = 0; w < trial.waiterCount(); w++) {
                     trial.setWaiterPart(w, EFFORT, effortIn(row, w));
                 }
@@ -1248,7 +1250,8 @@ public final class TablesAndTips {
         /** How many rows REST; the first of them is the row found. */
         int findRests() {
             int count = 0;
-            for (int row = 0; row < effortRows(); row++) {
+            int rows = effortRows();
+            for (int row = 0; row < rows; row++) {
                 if (rowRests(row)) {
                     rowFound = count == 0 ? row : rowFound;
                     count++;
@@ -1269,7 +1272,8 @@ public final class TablesAndTips {
         /** The row of the greatest sum of GAINS is the row found. */
         void findBest() {
             rowFound = 0;
-            for (int row = 1; row < effortRows(); row++) {
+            int rows = effortRows();
+            for (int row = 1; row < rows; row++) {
                 if (sumOfGains(row) > sumOfGains(rowFound)) {
                     rowFound = row;
                 }

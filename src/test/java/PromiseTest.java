@@ -136,6 +136,9 @@ public final class PromiseTest {
         same("no element 0", x.set(4, 0, 1), -5);
         same("a new row for an old one", x.row(0, 0, 160), 1);
         same("its elements are 0", x.element(0, 159), 0);
+        x.set(0, 0, 4);
+        x.row(0, 0, 160);
+        same("the first too", x.element(0, 0), 0);
         x.set(0, 3, 5);
         same("shelf -1 ahead of all", x.row(-1, 9, -1), -1);
         same("shelf 8", x.row(8, 0, 1), -1);
@@ -599,6 +602,10 @@ public final class PromiseTest {
         same("grudged by service 5", ofOneTable(6, 500, 2, 4, 5).would(0), 30);
         same("grudged by service 6", ofOneTable(6, 500, 2, 4, 6).would(0), 32);
         same("grudged: 0 at least", ofOneTable(6, 10, 1, 99, 0).would(0), 0);
+        TablesAndTips first = ofOneTable(5, 100, 1, 0, 0);
+        same("shown nothing", first.would(0), 0);
+        first.ask(1, 9);
+        same("nor what it gives itself", first.would(0), 0);
         TablesAndTips x = ofOneTable(0, 1, 1, 40, 0);
         x.table(5, 100, 1, 30, 0);
         x.table(5, 100, 1, 50, 0);
@@ -680,6 +687,13 @@ public final class PromiseTest {
         same("no waiter ahead of what", x.share(3, 2), -1);
         same("no waiter -1", x.share(-1, 0), -1);
         refusals(x, 2, 0, 0, 0, 2, 0, 0);
+        TablesAndTips alone = ofOneTable(0, 1, 1, 15, 0);
+        same("own at once", alone.share(0, 0), 15);
+        alone.ask(0, 1);
+        same("the pot of one", alone.share(0, 1), 15);
+        alone.ask(0, 2);
+        same("the only point", alone.share(0, 1), 15);
+        same("turns of one", alone.turns(0, 2), 30);
         TablesAndTips y = withWaiters(2);
         y.table(0, 1, 1, 15, 0);
         y.ask(0, 3);
@@ -778,6 +792,8 @@ public final class PromiseTest {
         same("in one pot nobody pays for 1 alone", x.rests(1), 0);
         same("best for all: 0", x.best(0), 3);
         same("best for all: 1", x.best(1), 3);
+        x.becomes(0, 1, 2);
+        same("whatever it is now", x.best(0), 3);
         x.becomes(1, 2, 4);
         same("of several the first", x.best(1), 0);
         x.becomes(1, 2, 5);
@@ -805,6 +821,9 @@ public final class PromiseTest {
         same("1 3 2 does for 1", x.points(1), 3);
         same("nothing is changed", x.waiterOf(1, 3), 1);
         same("nor sharing", x.status(3), 0);
+        x.becomes(1, 4, 0);
+        x.becomes(2, 4, 0);
+        same("none wants: the first row", x.points(0), 1);
         same("no waiter", x.points(3), -1);
         same("no waiter -1", x.points(-1), -1);
         refusals(x, 2, 0, 0, 0, 2, 0, 0);
