@@ -762,6 +762,32 @@ public final class PromiseTest {
         same("no waiter", x.rest(2), -11);
         same("no waiter -2", x.rest(-2), -11);
         refusals(x, 2, 0, 0, 0, 0, 0, 0);
+        // By 6 and 7 of 13 points each cut share grows with every other effort: 2 3, 3 2, 2 3 and so on.
+        TablesAndTips y = new TablesAndTips();
+        y.waiter(2, 0, 0);
+        y.waiter(1, 0, 0);
+        y.becomes(0, 3, 6);
+        y.becomes(1, 3, 7);
+        y.table(3, 1, 1, 0, 1);
+        y.table(3, 1, 1, 0, 0);
+        y.ask(0, 2);
+        same("no rest in 30 rounds", y.rest(NONE), NONE);
+        same("effort of 0 after 30", y.rest(0), 3);
+        same("effort of 1 after 30", y.rest(1), 2);
+        y.becomes(0, 1, 3);
+        y.becomes(1, 1, 2);
+        same("effort of 0 after 30 from 3 2", y.rest(0), 3);
+        same("no refusal in that", y.status(11), 0);
+        // By 2 and 3 of 5 points: 0 1, then 2 3, 3 2, 1 2.
+        y.becomes(0, 0, 0);
+        y.becomes(1, 0, 2);
+        y.becomes(0, 3, 2);
+        y.becomes(1, 3, 3);
+        y.becomes(0, 1, 0);
+        y.becomes(1, 1, 1);
+        same("three rounds", y.rest(NONE), 3);
+        same("effort of 0 after three", y.rest(0), 1);
+        same("effort of 1 after three", y.rest(1), 2);
         same("without waiters", new TablesAndTips().rest(NONE), 0);
         same("no waiter at all", new TablesAndTips().rest(0), -11);
     }
