@@ -596,6 +596,7 @@ public final class TablesAndTips {
         return false;
     }
 
+    /** All rows of ints are read by this and written by the next, so that no index goes unlooked at. */
     private static int at(int[] row, int i) {
         return i >= 0 && i < row.length ? row[i] : 0;
     }

@@ -1,5 +1,11 @@
+import java.lang.reflect.InvocationTargetException;
+import java.lang.reflect.Method;
+import java.lang.reflect.Modifier;
 import java.util.ArrayList;
+import java.util.Arrays;
+import java.util.HashMap;
 import java.util.List;
+import java.util.Map;
 import java.util.Random;
 
 /** Long runs of calls drawn at random (by a fixed seed), each answer compared with that of the Model. */
@@ -13,6 +19,9 @@ public final class RandomRunsTest {
         "status"};
     private static final int[] EDGES = {Integer.MIN_VALUE, Integer.MAX_VALUE, Integer.MIN_VALUE + 1, -2, -1, 0, 1,
         160, 161, 1000, 65536, 256};
+
+    private static final Map<String, Method> ON_PROGRAM = calls(TablesAndTips.class);
+    private static final Map<String, Method> ON_MODEL = calls(Model.class);
 
     private final Random random;
     private final TablesAndTips program = new TablesAndTips();
@@ -192,8 +201,14 @@ public final class RandomRunsTest {
             case "house":
             case "judge":
                 return new long[] {random.nextBoolean() ? shelf() : shelfOf(false)};
-            default:
+            case "reply":
+            case "best":
+            case "points":
+            case "luck":
+            case "worth":
                 return new long[] {someWaiter()};
+            default:
+                return new long[0];
         }
     }
 
@@ -213,20 +228,16 @@ public final class RandomRunsTest {
             return 0;
         }
         made++;
-        long due = onModel(name, v);
+        long due = answer(ON_MODEL.get(name), model, v);
         long got;
         try {
-            got = onProgram(name, v);
-        } catch (RuntimeException | Error thrown) {
-            calls.add(name + " threw " + thrown);
+            got = answer(ON_PROGRAM.get(name), program, v);
+        } catch (IllegalStateException thrown) {
+            calls.add(name + Arrays.toString(v) + " threw " + thrown.getCause().getCause());
             same = false;
             return 0;
         }
-        StringBuilder told = new StringBuilder(name);
-        for (long a : v) {
-            told.append(' ').append(a);
-        }
-        calls.add(told.append(" answered ").append(got).append(", due is ").append(due).toString());
+        calls.add(name + Arrays.toString(v) + " answered " + got + ", due is " + due);
         same &= got == due;
         return got;
     }
@@ -325,105 +336,30 @@ public final class RandomRunsTest {
         }
     }
 
-    private long onProgram(String name, long... v) {
-        TablesAndTips x = program;
-        switch (name) {
-            case "row": return x.row((int) v[0], (int) v[1], (int) v[2]);
-            case "set": return x.set((int) v[0], (int) v[1], v[2]);
-            case "copy": return x.copy((int) v[0], (int) v[1], (int) v[2], (int) v[3], (int) v[4]);
-            case "element": return x.element((int) v[0], (int) v[1]);
-            case "show": return x.show((int) v[0], (int) v[1]);
-            case "holds": return x.holds((int) v[0]);
-            case "says": return x.says((int) v[0], (int) v[1]);
-            case "waiter": return x.waiter((int) v[0], (int) v[1], (int) v[2]);
-            case "table": return x.table((int) v[0], (int) v[1], (int) v[2], (int) v[3], (int) v[4]);
-            case "tables": return x.tables((int) v[0], (int) v[1], (int) v[2]);
-            case "serves": return x.serves((int) v[0], (int) v[1]);
-            case "becomes": return x.becomes((int) v[0], (int) v[1], (int) v[2]);
-            case "ask": return x.ask((int) v[0], (int) v[1]);
-            case "tableOf": return x.tableOf((int) v[0], (int) v[1]);
-            case "waiterOf": return x.waiterOf((int) v[0], (int) v[1]);
-            case "house": return x.house((int) v[0]);
-            case "fault": return x.fault();
-            case "would": return x.would((int) v[0]);
-            case "gives": return x.gives((int) v[0]);
-            case "all": return x.all();
-            case "share": return x.share((int) v[0], (int) v[1]);
-            case "gain": return x.gain((int) v[0], (int) v[1]);
-            case "reply": return x.reply((int) v[0]);
-            case "rest": return x.rest((int) v[0]);
-            case "rests": return x.rests((int) v[0]);
-            case "best": return x.best((int) v[0]);
-            case "points": return x.points((int) v[0]);
-            case "leavers": return x.leavers();
-            case "most": return x.most((int) v[0], (int) v[1]);
-            case "even": return x.even((int) v[0], (int) v[1]);
-            case "turns": return x.turns((int) v[0], (int) v[1]);
-            case "luck": return x.luck((int) v[0]);
-            case "worth": return x.worth((int) v[0]);
-            case "raise": return x.raise();
-            case "judge": return x.judge((int) v[0]);
-            case "told": return x.told((int) v[0], (int) v[1]);
-            case "evening": return x.evening();
-            case "guests": return x.guests();
-            case "seed": return x.seed((int) v[0]);
-            case "act": return x.act((int) v[0], (int) v[1], (int) v[2]);
-            case "trace": return x.trace((int) v[0]);
-            case "image": return x.image();
-            case "restore": return x.restore();
-            case "status": return x.status((int) v[0]);
-            default: throw new IllegalStateException(name);
+    private static Map<String, Method> calls(Class<?> type) {
+        Map<String, Method> calls = new HashMap<>();
+        for (Method method : type.getDeclaredMethods()) {
+            if (!Modifier.isPrivate(method.getModifiers())) {
+                calls.put(method.getName(), method);
+            }
         }
+        return calls;
     }
 
-    private long onModel(String name, long... v) {
-        Model x = model;
-        switch (name) {
-            case "row": return x.row((int) v[0], (int) v[1], (int) v[2]);
-            case "set": return x.set((int) v[0], (int) v[1], v[2]);
-            case "copy": return x.copy((int) v[0], (int) v[1], (int) v[2], (int) v[3], (int) v[4]);
-            case "element": return x.element((int) v[0], (int) v[1]);
-            case "show": return x.show((int) v[0], (int) v[1]);
-            case "holds": return x.holds((int) v[0]);
-            case "says": return x.says((int) v[0], (int) v[1]);
-            case "waiter": return x.waiter((int) v[0], (int) v[1], (int) v[2]);
-            case "table": return x.table((int) v[0], (int) v[1], (int) v[2], (int) v[3], (int) v[4]);
-            case "tables": return x.tables((int) v[0], (int) v[1], (int) v[2]);
-            case "serves": return x.serves((int) v[0], (int) v[1]);
-            case "becomes": return x.becomes((int) v[0], (int) v[1], (int) v[2]);
-            case "ask": return x.ask((int) v[0], (int) v[1]);
-            case "tableOf": return x.tableOf((int) v[0], (int) v[1]);
-            case "waiterOf": return x.waiterOf((int) v[0], (int) v[1]);
-            case "house": return x.house((int) v[0]);
-            case "fault": return x.fault();
-            case "would": return x.would((int) v[0]);
-            case "gives": return x.gives((int) v[0]);
-            case "all": return x.all();
-            case "share": return x.share((int) v[0], (int) v[1]);
-            case "gain": return x.gain((int) v[0], (int) v[1]);
-            case "reply": return x.reply((int) v[0]);
-            case "rest": return x.rest((int) v[0]);
-            case "rests": return x.rests((int) v[0]);
-            case "best": return x.best((int) v[0]);
-            case "points": return x.points((int) v[0]);
-            case "leavers": return x.leavers();
-            case "most": return x.most((int) v[0], (int) v[1]);
-            case "even": return x.even((int) v[0], (int) v[1]);
-            case "turns": return x.turns((int) v[0], (int) v[1]);
-            case "luck": return x.luck((int) v[0]);
-            case "worth": return x.worth((int) v[0]);
-            case "raise": return x.raise();
-            case "judge": return x.judge((int) v[0]);
-            case "told": return x.told((int) v[0], (int) v[1]);
-            case "evening": return x.evening();
-            case "guests": return x.guests();
-            case "seed": return x.seed((int) v[0]);
-            case "act": return x.act((int) v[0], (int) v[1], (int) v[2]);
-            case "trace": return x.trace((int) v[0]);
-            case "image": return x.image();
-            case "restore": return x.restore();
-            case "status": return x.status((int) v[0]);
-            default: throw new IllegalStateException(name);
+    private static long answer(Method method, Object of, long... v) {
+        Class<?>[] types = method.getParameterTypes();
+        Object[] arguments = new Object[types.length];
+        for (int i = 0; i < types.length; i++) {
+            if (types[i] == int.class) {
+                arguments[i] = (int) v[i];
+            } else {
+                arguments[i] = v[i];
+            }
+        }
+        try {
+            return ((Number) method.invoke(of, arguments)).longValue();
+        } catch (IllegalAccessException | InvocationTargetException thrown) {
+            throw new IllegalStateException(method.getName() + " threw", thrown);
         }
     }
 }
