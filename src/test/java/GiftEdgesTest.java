@@ -98,6 +98,8 @@ public final class GiftEdgesTest extends Edges {
 
     private static void shown() {
         wouldGive("SHOWN: if there is none ahead, CUSTOM's", 10, () -> ofOne(6, 5, 100, 9, 10));
+        wouldGive("SHOWN: if there is none ahead, CUSTOM's of 0", 0, () -> ofOne(6, 5, 100, 9, 0));
+        gives("SHOWN: if there is none ahead, CUSTOM's of 0", 0, () -> ofOne(6, 5, 100, 9, 0));
         wouldGive("SHOWN: if there is none ahead, not what it GIVES itself", 10,
             () -> after(ofOne(6, 5, 100, 9, 10), x -> x.ask(1, 30)));
         wouldGive("SHOWN: the table ahead GIVES 0", 10, () -> shownAfter(0));
@@ -179,6 +181,18 @@ public final class GiftEdgesTest extends Edges {
         tells("21: all eight", Edges::full, 28, TablesAndTips::all);
         tells("21: ADDED and all", () -> after(full(), x -> x.ask(1, 30)), 3 + 3 + 3 + 3 + 4 + 5 + 6 + 7,
             TablesAndTips::all);
+        tells("21: of no more tables than there are now", GiftEdgesTest::oneOfTwo, 7, TablesAndTips::all);
+        tells("22: OWN of no more tables than there are now", GiftEdgesTest::oneOfTwo, 7, x -> x.share(0, 0));
+    }
+
+    /** A table that gives 7; another one, that gave 50, was there, and was asked, but is not in THE IMAGE. */
+    private static TablesAndTips oneOfTwo() {
+        TablesAndTips x = giving(1, 7);
+        x.image();
+        x.table(0, 1, 1, 50, 0);
+        x.all();
+        x.restore();
+        return x;
     }
 
     private static void own22() {

@@ -277,6 +277,7 @@ public final class HouseEdgesTest extends Edges {
         }
         for (int what : new int[] {LEAST, -1, 5, 6, MOST}) {
             refused("14: -6 another what", Edges::busy, -6, x -> x.ask(what, 1));
+            refused("14: -6 another what, of the least v", Edges::busy, -6, x -> x.ask(what, 0));
         }
     }
 

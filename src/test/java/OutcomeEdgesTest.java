@@ -28,6 +28,7 @@ public final class OutcomeEdgesTest extends Edges {
         judgeRefused36();
         told37();
         toldRefused37();
+        askedAgain();
         Checks.end("OutcomeEdgesTest");
     }
 
@@ -54,6 +55,11 @@ public final class OutcomeEdgesTest extends Edges {
             tells("24: each EFFORT gives 3 up to SERVICE 5, then 1, and costs " + p, () -> paid(6, p), byGrudge[p],
                 x -> x.reply(0));
         }
+        tells("24: the grudge ends at EFFORT 1", () -> after(paid(6, 2), x -> x.becomes(0, 0, 4)), 1, x -> x.reply(0));
+        tells("24: EFFORT 3 at most, though another's would be more for both", () -> after(potOfTwo(0, 0), x -> {
+            x.becomes(1, 2, 99);
+            x.table(3, 1, 9, 0, 0);
+        }), 0, x -> x.reply(1));
         tells("24: of who has no table the least", () -> after(withWaiters(2), x -> x.becomes(1, 1, 3)), 0,
             x -> x.reply(1));
         tells("24: the last of four", Edges::full, 0, x -> x.reply(3));
@@ -146,7 +152,7 @@ public final class OutcomeEdgesTest extends Edges {
         refusedNear("25: -11 of who never rest", () -> restless(2, 3), -1, x -> x.rest(2));
     }
 
-    /** That none RESTS can't be: what a WAITER alone makes more of is more for one sum that all go by (see NOTES). */
+    /** That none RESTS can't be (NOTES.md tells why), so that -5 can't be reached. */
     private static void rests26() {
         tells("Details: without WAITERS the empty row is one that RESTS", Edges::fresh, 1, x -> x.rests(NONE));
         tells("26: two rows", () -> potOfTwo(0, 0), 2, x -> x.rests(NONE));
@@ -191,6 +197,7 @@ public final class OutcomeEdgesTest extends Edges {
             tells("27: where all is the same, the first", () -> after(full(), x -> x.becomes(asked, 1, 3)), 0,
                 x -> x.best(asked));
         }
+        tells("27: the grudge ends at EFFORT 1", () -> after(paid(6, 2), x -> x.becomes(0, 0, 4)), 1, x -> x.best(0));
         tells("27: costs as much as it gives: the first", () -> after(paid(3, 1), x -> x.becomes(0, 1, 2)), 0,
             x -> x.best(0));
         tells("27: a sum below 0 is not the greatest", () -> after(paid(3, 99), x -> x.becomes(0, 1, 2)), 0,
@@ -311,6 +318,17 @@ public final class OutcomeEdgesTest extends Edges {
             x.table(3, 1, 1, 0, 0);
             return x;
         };
+        tells("30: if there is none ahead, CUSTOM's of 0", () -> ofOne(6, 5, 1, 9, 0), 0, x -> x.most(1, NONE));
+        tells("31: if there is none ahead, CUSTOM's of 0", () -> after(ofOne(6, 5, 1, 9, 0),
+            x -> x.waiter(0, 0, 0)), 0, x -> x.even(1, NONE));
+        tells("30: the first WAITER at the first table, the last row", () -> after(twoSkills(2), x -> {
+            x.becomes(0, 0, 6);
+            x.becomes(1, 0, 0);
+            x.becomes(0, 1, 3);
+        }), 9, x -> x.most(1, NONE));
+        tells("30: the last WAITER at the first table, the last row", () -> after(twoSkills(1), x -> {
+            x.table(0, 1, 1, 0, 0);
+        }), 6, x -> x.most(1, NONE));
         tells("30: what the one ahead GIVES goes on", shown, 18, x -> x.most(2, NONE));
         row("30: what the one ahead GIVES goes on", shown, false, 2, 1, 0, 1);
     }
@@ -338,6 +356,18 @@ public final class OutcomeEdgesTest extends Edges {
         Made fiveThreeTwo = () -> after(giving(1, 5, 3), x -> x.table(0, 1, 1, 2, 0));
         tells("31: the least difference", fiveThreeTwo, 0, x -> x.even(2, NONE));
         row("31: of several the first row (by tables)", fiveThreeTwo, true, 2, 0, 1, 1);
+        Made oneThenNone = () -> after(withWaiters(2), x -> {
+            x.becomes(0, 0, 1);
+            x.table(3, 1, 1, 0, 0);
+        });
+        tells("31: a difference of 0 after one of 1", oneThenNone, 0, x -> x.even(1, NONE));
+        row("31: a difference of 0 after one of 1", oneThenNone, true, 1, 1);
+        Made lateNone = () -> after(giving(1, 3, 1), x -> {
+            x.table(0, 1, 1, 1, 0);
+            x.table(0, 1, 1, 1, 0);
+        });
+        tells("31: a difference of 0 after one of 2", lateNone, 0, x -> x.even(3, NONE));
+        row("31: a difference of 0 after one of 2", lateNone, true, 3, 0, 1, 1, 1);
         Made twoOnly = () -> after(withWaiters(2), x -> {
             x.table(0, 1, 1, 5, 1);
             x.table(0, 1, 1, 5, 1);
@@ -582,5 +612,90 @@ public final class OutcomeEdgesTest extends Edges {
             refusedFar("37: -1000006 it may not be", () -> toldHouse(e, 1), -6, x -> x.told(0, 0));
             refusedFar("37: -1000006 another's may not be", () -> toldHouse(1, e), -6, x -> x.told(0, 0));
         }
+    }
+
+    /** All that comes of it, asked in turn. */
+    private static void askAll(TablesAndTips x) {
+        for (int w = NONE; w < 4; w++) {
+            x.reply(w);
+            x.rest(w);
+            x.rests(w);
+            x.best(w);
+            x.points(w);
+            x.turns(w, 30);
+            x.luck(w);
+            x.worth(w);
+        }
+        for (int k = 1; k < 9; k++) {
+            x.most(k, NONE);
+            x.even(k, NONE);
+        }
+        x.raise();
+        x.leavers();
+    }
+
+    /** A house that was greater, and of which all was asked then. */
+    private static TablesAndTips lessened(TablesAndTips x) {
+        x.image();
+        for (int w = x.status(1); w < 4; w++) {
+            x.waiter(6, 0, 999);
+            x.becomes(w, 1, 3);
+        }
+        for (int t = x.status(0); t < 8; t++) {
+            x.table(3, 999, 9, 99, t % 4);
+        }
+        for (int w = 0; w < 4; w++) {
+            x.becomes(w, 1, 3);
+            x.becomes(w, 3, 9);
+        }
+        askAll(x);
+        x.restore();
+        return x;
+    }
+
+    private static void alikeNow(String sentence, Made made) {
+        TablesAndTips x = lessened(made.make());
+        TablesAndTips beside = made.make();
+        beside.image();
+        for (int w = NONE; w < beside.status(1); w++) {
+            Checks.same("24: " + sentence, x.reply(w), beside.reply(w));
+            Checks.same("25: " + sentence, x.rest(w), beside.rest(w));
+            Checks.same("26: " + sentence, x.rests(w), beside.rests(w));
+            Checks.same("27: " + sentence, x.best(w), beside.best(w));
+            Checks.same("28: " + sentence, x.points(w), beside.points(w));
+            Checks.same("32: " + sentence, x.turns(w, 7), beside.turns(w, 7));
+            Checks.same("33: " + sentence, x.luck(w), beside.luck(w));
+            Checks.same("34: " + sentence, x.worth(w), beside.worth(w));
+        }
+        for (int k = 1; k < 9; k++) {
+            for (int t = NONE; t < beside.status(0); t++) {
+                Checks.same("30: " + sentence, x.most(k, t), beside.most(k, t));
+                Checks.same("31: " + sentence, x.even(k, t), beside.even(k, t));
+            }
+        }
+        Checks.same("29: " + sentence, x.leavers(), beside.leavers());
+        Checks.same("35: " + sentence, x.raise(), beside.raise());
+    }
+
+    /** What was asked ahead, of a greater house even, is nothing to what is asked now. */
+    private static void askedAgain() {
+        String sentence = "whatever was asked ahead";
+        alikeNow(sentence, Edges::fresh);
+        alikeNow(sentence, Edges::busy);
+        alikeNow(sentence, () -> withWaiters(1));
+        alikeNow(sentence, () -> withWaiters(3));
+        alikeNow(sentence, () -> paid(6, 2));
+        alikeNow(sentence, () -> potOfTwo(1, 2));
+        alikeNow(sentence, () -> restless(2, 3));
+        alikeNow(sentence, () -> wanting(75, 25));
+        alikeNow(sentence, () -> wanting(999, 999));
+        alikeNow(sentence, () -> twoSkills(3));
+        alikeNow(sentence, () -> ofOne(6, 5, 1, 9, 0));
+        alikeNow(sentence, () -> giving(100, 5, 3, 9));
+        TablesAndTips x = twoSkills(5);
+        does("30: one that can be", x, 24, y -> y.most(4, NONE));
+        Checks.same("30: then one that can't be", x.most(2, NONE), -5);
+        Checks.same("31: then one that can't be", x.even(2, NONE), -5);
+        does("30: then the one that can be", x, 24, y -> y.most(4, NONE));
     }
 }

@@ -226,16 +226,29 @@ public final class TruthEdgesTest extends Edges {
         acted("the least k", z, 1, 0, MOST, LEAST);
     }
 
+    /** In an act these bodies ran, and those, and so on. */
+    private static void ran(int kind, int act, int[]... bodies) {
+        TablesAndTips x = allKinds(1);
+        x.act(kind, act, 5);
+        int i = 0;
+        for (int[] some : bodies) {
+            for (int body : some) {
+                Checks.same("Terms: in the order in which they began, of " + kind + ", " + act, x.trace(i), body);
+                i++;
+            }
+        }
+        Checks.same("Terms: the body of the GUESTS' KIND, or of the next KIND above that has one, " + kind,
+            x.status(8), i);
+    }
+
     private static void actsByKind41() {
         int[][] bodies = {{10}, {20, 10}, {20, 10}, {20, 10}, {10}, {70, 20, 10}, {51, 20, 10}};
+        int[][] giving = {{11}, {11}, {30, 11}, {40, 11}, {11}, {71, 11}, {40, 11}};
+        int[][] staying = {{12}, {12}, {12}, {12}, {60, 12}, {12}, {50, 12}};
         for (int kind = 0; kind < 7; kind++) {
-            TablesAndTips x = allKinds(1);
-            x.act(kind, 0, 5);
-            Checks.same("Terms: the body of the GUESTS' KIND, or of the next KIND above that has one, " + kind,
-                x.status(8), bodies[kind].length);
-            for (int i = 0; i < bodies[kind].length; i++) {
-                Checks.same("Terms: in the order in which they began", x.trace(i), bodies[kind][i]);
-            }
+            ran(kind, 0, bodies[kind]);
+            ran(kind, 1, giving[kind], bodies[kind]);
+            ran(kind, 2, staying[kind], giving[kind], bodies[kind], bodies[kind]);
         }
         TablesAndTips x = allKinds(1);
         x.guests();
@@ -328,6 +341,16 @@ public final class TruthEdgesTest extends Edges {
         }
         x.table(0, 1, 1, 50, 0);
         Checks.same("44: they hold NOTHING, though there is such a table again", x.holds(4), NONE);
+        TablesAndTips none = withWaiters(1);
+        none.image();
+        for (int t = 0; t < 8; t++) {
+            none.table(0, 1, 1, t, 0);
+            none.show(t, t);
+        }
+        does("44: no TABLES", none, 0, TablesAndTips::restore);
+        for (int s = 0; s < 8; s++) {
+            Checks.same("44: NOTHING, where there are no tables", none.holds(s), NONE);
+        }
         TablesAndTips guests = ofOne(0, 0, 1, 1, 33);
         guests.show(0, 0);
         guests.image();
