@@ -359,9 +359,10 @@ public final class OutcomeEdgesTest extends Edges {
         Made oneThenNone = () -> after(withWaiters(2), x -> {
             x.becomes(0, 0, 1);
             x.table(3, 1, 1, 0, 0);
+            x.table(0, 1, 1, 0, 0);
         });
-        tells("31: a difference of 0 after one of 1", oneThenNone, 0, x -> x.even(1, NONE));
-        row("31: a difference of 0 after one of 1", oneThenNone, true, 1, 1);
+        tells("31: a difference of 0 after one of 1", oneThenNone, 0, x -> x.even(2, NONE));
+        row("31: a difference of 0 after one of 1", oneThenNone, true, 2, 1, 0);
         Made lateNone = () -> after(giving(1, 3, 1), x -> {
             x.table(0, 1, 1, 1, 0);
             x.table(0, 1, 1, 1, 0);
